@@ -165,10 +165,7 @@ public final class MixedWords {
             return NOT - FAR_BELOW;
         }
         long above = least.above[column];
-        long divisor = commonDivisor(Math.abs(above), least.below);
-        if (divisor <= 0) {
-            return NOT - FAR_BELOW;
-        }
+        long divisor = Math.max(1L, commonDivisor(Math.abs(above), least.below));
         return (what == 0 ? above : least.below) / divisor;
     }
 
@@ -234,10 +231,10 @@ public final class MixedWords {
             if (Integer.bitCount(columns) != k) {
                 continue;
             }
-            long worth = least.worthOf(mix, columns);
-            if (worth > bestWorth) {
+            long itsWorth = least.worthOf(mix, columns);
+            if (itsWorth > bestWorth) {
                 best = columns;
-                bestWorth = worth;
+                bestWorth = itsWorth;
             }
         }
         return best;
@@ -269,18 +266,18 @@ public final class MixedWords {
     }
 
     public int item(int sheet, int lane, int i, int v) {
-        int refusal = refusal(sheet, lane, i, 1);
-        if (refusal != 0) {
-            return refusal;
+        int why = refusal(sheet, lane, i, 1);
+        if (why != 0) {
+            return why;
         }
         sheets[sheet].put(i, v);
         return 1;
     }
 
     public int rows(int sheet, int lane, int i) {
-        int refusal = refusal(sheet, lane, i, mix.height * (mix.width + 1));
-        if (refusal != 0) {
-            return refusal;
+        int why = refusal(sheet, lane, i, mix.height * (mix.width + 1));
+        if (why != 0) {
+            return why;
         }
         if (!mix.takes(sheets[sheet].items, i)) {
             return NOT;
@@ -932,8 +929,9 @@ public final class MixedWords {
                 return 0;
             }
             int above = product(columns, mix.height, i, j);
-            int nearest = (2 * Math.abs(above) + below - 1) / (2 * below);
-            return above < 0 ? -nearest : nearest;
+            // What is added is just short of a half, so that of two as near that nearer to 0 is met.
+            int size = (2 * Math.abs(above) + below - 1) / (2 * below);
+            return above < 0 ? -size : size;
         }
 
         private void shorten(int i, int j, int q) {

@@ -67,6 +67,7 @@ public final class GramTest {
     }
 
     private static void fraction() {
+        isFraction(Due.of("1", 2, 5), 0, 5, 1);
         isFraction(Due.of("2", 2, 3), 0, 3, 2);
         isFraction(Due.of("-2", 2, 3), 0, -3, 2);
         isFraction(Due.of("-2", 2, -4), 0, 2, 1);

@@ -11,6 +11,12 @@ public final class NewObjectTest {
         Due.is("told(0, 3)", x.told(0, 3), -10001);
         Due.is("off(3): A is 2, M is 2", x.off(3), 0);
         Due.is("off(4)", x.off(4), MixedWords.BAD);
+        for (int i = 0; i < 4; i++) {
+            Due.is("nearest(" + i + ")", x.nearest(i), i);
+        }
+        Due.is("soft(1, 0)", x.soft(1, 0), 0);
+        Due.is("ledAt(1, 0, 0)", x.ledAt(1, 0, 0), 1);
+        Due.is("ledAt(1, 0, 1)", x.ledAt(1, 0, 1), 0);
         Due.is("undo()", x.undo(), MixedWords.NOT);
         Due.is("redo()", x.redo(), MixedWords.NOT);
         for (int sheet = 0; sheet < 4; sheet++) {

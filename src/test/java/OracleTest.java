@@ -2,7 +2,7 @@ import java.util.Random;
 
 /** Runs of 512 calls by a fixed seed, each answer beside that of a model written another way. */
 public final class OracleTest {
-    private static final int RUNS = 1200, CALLS = 512;
+    private static final int RUNS = 1200, CALLS = 512, TEXT_RUNS = 20000;
     private static final int[] FAR = {Integer.MIN_VALUE, Integer.MAX_VALUE, -1, -2, 1000000, 256, 999, 1000, -1000};
     private static final String[] TEXTS = {
         "1,2;3,4", "9,8,7,6;8,9,8,7;7,8,9,8;6,7,8,9;1,2,3,4", "1;2;3;4;5;6", "1,2,3,4,5", "-1,-2;3", " - 3 , 4 ; 5 ,-6 ",
@@ -34,6 +34,9 @@ public final class OracleTest {
             }
         }
         Due.is("runs that go wrong", wrong, 0);
+        for (int seed = 0; seed < TEXT_RUNS; seed++) {
+            new OracleTest(seed).readText();
+        }
         Due.end(OracleTest.class);
     }
 
@@ -56,6 +59,43 @@ public final class OracleTest {
             }
         }
         return 0;
+    }
+
+    /** Tables as texts, half of them with a sign put in, left out or changed. */
+    private void readText() {
+        StringBuilder text = new StringBuilder(goodText());
+        if (random.nextBoolean()) {
+            int at = random.nextInt(text.length());
+            int way = random.nextInt(3);
+            text.delete(at, way == 0 ? at : at + 1);
+            text.insert(at, way == 1 ? "" : "" + ",;- 0123456789x".charAt(random.nextInt(15)));
+        }
+        for (int i = 0; i < text.length(); i++) {
+            Due.is("type of '" + text + "' at " + i, x.type(text.charAt(i), 1), model.type(text.charAt(i), 1));
+        }
+        Due.is("read() of '" + text + "'", x.read(), model.read());
+        for (int row = 0; row <= 5; row++) {
+            for (int column = 0; column <= 5; column++) {
+                Due.is("told of '" + text + "'", x.told(row, column), model.told(row, column));
+            }
+        }
+    }
+
+    private String goodText() {
+        int r = 1 + random.nextInt(5);
+        int m = 1 + random.nextInt(4);
+        boolean isWide = random.nextBoolean();
+        StringBuilder text = new StringBuilder();
+        for (int k = 0; k < r * m; k++) {
+            text.append(k == 0 ? "" : k % m == 0 ? ";" : ",").append(blanks(isWide));
+            text.append(random.nextInt(3) == 0 ? "-" + blanks(isWide) : "").append(random.nextInt(6) == 0 ? "0" : "");
+            text.append(random.nextInt(10)).append(blanks(isWide));
+        }
+        return text.toString();
+    }
+
+    private String blanks(boolean isWide) {
+        return isWide && random.nextInt(4) == 0 ? " " : "";
     }
 
     /** A number from 0 on below n; now and then one at the edge or far away. */
