@@ -427,19 +427,27 @@ public final class MixedWords {
             stamp++;
         }
 
+        /** Whether items from one on are numbers of THE TABLE, row by row with what is HEARD behind each. */
         boolean takes(long[] items, int from) {
-            for (int k = 0; k < height * (width + 1); k++) {
-                boolean isHeard = k % (width + 1) == width;
-                if (!within(items[from + k], isHeard ? MOST_HEARD : MOST_NUMBER)) {
-                    return false;
+            int place = from;
+            for (int row = 0; row < height; row++) {
+                for (int column = 0; column <= width; column++) {
+                    if (!within(items[place], column == width ? MOST_HEARD : MOST_NUMBER)) {
+                        return false;
+                    }
+                    place++;
                 }
             }
             return true;
         }
 
         void copy(long[] items, int from) {
-            for (int k = 0; k < height * (width + 1); k++) {
-                put(k / (width + 1), k % (width + 1), (int) items[from + k]);
+            int place = from;
+            for (int row = 0; row < height; row++) {
+                for (int column = 0; column <= width; column++) {
+                    put(row, column, (int) items[place]);
+                    place++;
+                }
             }
         }
     }

@@ -9,6 +9,11 @@ public final class GramTest {
         undone();
         fraction();
         chosen();
+        nearestLetterBesideTheMiddle();
+        hangTogether();
+        farthest();
+        withoutACommonDivisor();
+        chosenOfLikeOnes();
         Due.end(GramTest.class);
     }
 
@@ -109,5 +114,118 @@ public final class GramTest {
         Due.is("chosen(1) of like ones", tie.chosen(1), 1);
         Due.is("chosen(3) of none", tie.chosen(3), 7);
         Due.is("chosen(1) of a later column", Due.of("1,-2,2").chosen(1), 2);
+    }
+
+    /** "the nearest LETTER (of two as near the lesser)": the middle itself, and a ninth to each side. */
+    private static void nearestLetterBesideTheMiddle() {
+        int[][] middles = {{2, 0, 0}, {4, -2, 0}, {4, 0, 1}, {4, 2, 2}};
+        for (int[] m : middles) {
+            Due.is("undone() in the middle", Due.of("9", m[0], 9 * m[1]).undone(), m[2]);
+            Due.is("undone() a ninth below", Due.of("9", m[0], 9 * m[1] - 1).undone(), m[2]);
+            Due.is("undone() a ninth above", Due.of("9", m[0], 9 * m[1] + 1).undone(), m[2] + 1);
+            Due.is("undone() in the middle, by -9", Due.of("-9", m[0], -9 * m[1]).undone(), m[2]);
+            Due.is("undone() a ninth above, by -9", Due.of("-9", m[0], -9 * m[1] - 1).undone(), m[2] + 1);
+        }
+        for (int side = -1; side <= 1; side += 2) {
+            int outermost = side < 0 ? 0 : 3;
+            Due.is("undone() beyond the last LETTER", Due.of("1", 4, 4 * side).undone(), outermost);
+            Due.is("undone() far beyond the last LETTER", Due.of("1", 4, 999 * side).undone(), outermost);
+            Due.is("undone() at the last LETTER", Due.of("1", 4, 3 * side).undone(), outermost);
+        }
+        // x is the half of what both rows heard.
+        Due.is("undone() of 3 and -3", Due.of("1;1", 4, 3, -3).undone(), 1);
+        Due.is("undone() of 3 and 1: 2 is the middle", Due.of("1;1", 4, 3, 1).undone(), 2);
+        Due.is("undone() of 3 and 2", Due.of("1;1", 4, 3, 2).undone(), 3);
+        Due.is("undone() of -3 and -2", Due.of("1;1", 4, -3, -2).undone(), 0);
+    }
+
+    /** THE WORTH is 0: one column of 0s, two alike, one that is the others' sum, more columns than rows. */
+    private static void hangTogether() {
+        String[] tables = {
+            "0", "0;0;0;0;0", "1,0;2,0", "3,3;4,4", "3,-3;4,-4", "3,6;1,2", "1,2,3;4,5,9;7,1,8;1,1,2",
+            "1,0,1;0,1,1;0,0,0", "1,2", "1,2,3;4,5,6", "1,2,3,4;4,3,2,1;1,1,1,2", "1,0,0,1;0,1,0,1;0,0,1,1;0,0,0,0;0,0,0,0",
+            "9,9,9,9;9,9,9,9;9,9,9,9;9,9,9,9;9,9,9,9",
+        };
+        for (String table : tables) {
+            int m = table.split(";")[0].split(",").length;
+            MixedWords x = Due.of(table, 4);
+            x.hear(0, 5);
+            Due.is("worth of all columns of " + table, x.worth((1 << m) - 1), 0);
+            Due.is("undone() of " + table, x.undone(), MixedWords.NOT);
+            Due.is("ledWord() of " + table, x.ledWord(), MixedWords.NOT);
+            for (int column = 0; column < m; column++) {
+                Due.is("fraction above of " + table, x.fraction(column, 0), NO_WORTH);
+                Due.is("fraction below of " + table, x.fraction(column, 1), NO_WORTH);
+            }
+            Due.is("fraction of column M of " + table, x.fraction(m, 0), NO_COLUMN);
+        }
+        // As near to hanging together as whole numbers come.
+        MixedWords near = Due.of("9,8;8,7", 2, 1, 1);
+        Due.is("worth(3) of 9,8;8,7", near.worth(3), 1);
+        isFraction(near, 0, 1, 1);
+        isFraction(near, 1, -1, 1);
+    }
+
+    private static void farthest() {
+        MixedWords most = Due.of("9,9,9,9;9,-9,9,-9;9,9,-9,-9;9,-9,-9,9;9,9,9,-9", 2, 999, 999, 999, 999, -999);
+        Due.is("gram(0, 0) of the most", most.gram(0, 0), 405);
+        Due.is("gram(3, 3) of the most", most.gram(3, 3), 405);
+        Due.is("gram(0, 3) of the most", most.gram(0, 3), -81);
+        // 324 along the main line, 0 beside, and 81 times the signs of row 4: 324^4 and 4 * 81 * 324^3.
+        Due.is("worth(15) of the most", most.worth(15), 324L * 324 * 324 * 324 * 2);
+        Due.is("worth(1) of the most", most.worth(1), 405);
+        Due.is("worth(-1)", most.worth(-1), MixedWords.BAD);
+        Due.is("worth(16)", most.worth(16), MixedWords.BAD);
+        Due.is("worth(17)", most.worth(17), MixedWords.BAD);
+        isFraction(Due.of("1", 2, 999), 0, 999, 1);
+        isFraction(Due.of("1", 2, -999), 0, -999, 1);
+        // 9 x + 8 y = 999, 8 x + 7 y = -999; THE WORTH is 1.
+        isFraction(Due.of("9,8;8,7", 2, 999, -999), 0, -999 * 15, 1);
+        isFraction(Due.of("9,8;8,7", 2, 999, -999), 1, 999 * 17, 1);
+    }
+
+    /** "without a common divisor, below above 0", with 0 above too. */
+    private static void withoutACommonDivisor() {
+        for (int v = -9; v <= 9; v++) {
+            for (int h = -20; h <= 20; h++) {
+                if (v == 0) {
+                    continue;
+                }
+                MixedWords x = Due.of("" + v, 2, h);
+                long above = x.fraction(0, 0);
+                long below = x.fraction(0, 1);
+                Due.holds(h + " by " + v + " has " + below + " above 0 below", below > 0);
+                Due.is(h + " by " + v + ": the same fraction", above * v, below * h);
+                Due.is(h + " by " + v + ": no common divisor", divisor(Math.abs(above), below), 1);
+            }
+        }
+        isFraction(Due.of("9;9", 2, 0, 0), 0, 0, 1);
+        isFraction(Due.of("1,1;1,-1", 2, 4, 4), 0, 4, 1);
+        isFraction(Due.of("1,1;1,-1", 2, 4, 4), 1, 0, 1);
+        isFraction(Due.of("2,0;0,3", 2, -1, 1), 0, -1, 2);
+        isFraction(Due.of("2,0;0,3", 2, -1, 1), 1, 1, 3);
+    }
+
+    private static long divisor(long a, long b) {
+        return b == 0 ? a : divisor(b, a % b);
+    }
+
+    /** "of like ones the first by numbers": every pair and every three that could be first, all others being less. */
+    private static void chosenOfLikeOnes() {
+        for (int k = 1; k <= 4; k++) {
+            Due.is("chosen(" + k + ") of columns that stand upright", Due.of("1,0,0,0;0,1,0,0;0,0,1,0;0,0,0,1").chosen(k), (1 << k) - 1);
+            Due.is("chosen(" + k + ") of columns all alike", Due.of("2,2,2,2;1,1,1,1").chosen(k), (1 << k) - 1);
+        }
+        Due.is("chosen(1) of 1, 2, 2, 1", Due.of("1,2,2,1").chosen(1), 2);
+        Due.is("chosen(1) of 1, 2, -3, 3", Due.of("1,2,-3,3").chosen(1), 4);
+        Due.is("chosen(1) of 1, 2, 3, 4", Due.of("1,2,3,4").chosen(1), 8);
+        Due.is("chosen(2): 0, 2 before 1, 2", Due.of("1,1,0;0,0,1").chosen(2), 5);
+        Due.is("chosen(2): 0, 1 before 0, 2", Due.of("1,0,0;0,1,1").chosen(2), 3);
+        Due.is("chosen(2): 1, 3 before 2, 3", Due.of("0,1,1,0;0,0,0,1").chosen(2), 10);
+        Due.is("chosen(3): 0, 1, 3 before 0, 2, 3", Due.of("1,0,0,0;0,1,1,0;0,0,0,1").chosen(3), 11);
+        Due.is("chosen(3): 0, 2, 3 before 1, 2, 3", Due.of("1,1,0,0;0,0,1,0;0,0,0,1").chosen(3), 13);
+        Due.is("chosen(3): 1, 2, 3 alone", Due.of("0,1,0,0;0,0,1,0;0,0,0,1").chosen(3), 14);
+        Due.is("chosen(4) of WORTH 0", Due.of("1,1,1,1").chosen(4), 15);
+        Due.is("chosen(1) of one column of 0s", Due.of("0").chosen(1), 1);
     }
 }

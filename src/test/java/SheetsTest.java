@@ -10,6 +10,12 @@ public final class SheetsTest {
         rows();
         wrongRows();
         notAsTold();
+        wholeBytes();
+        wholeInts();
+        anotherRow();
+        sheetsByThemselves();
+        noItemsIsNotNothing();
+        rowsBesideOthers();
         Due.end(SheetsTest.class);
     }
 
@@ -166,5 +172,145 @@ public final class SheetsTest {
                 Due.is("told of it", x.told(i / 3, i % 3), sign * most[i]);
             }
         }
+    }
+
+    /** "its lowest bits" of a byte, by all that HEARD can tell: -128 .. 127 come round. */
+    private static void wholeBytes() {
+        MixedWords x = new MixedWords();
+        x.table(1, 1);
+        x.sheet(0, 0, 2);
+        int[][] pairs = {
+            {127, 127}, {128, -128}, {129, -127}, {255, -1}, {256, 0}, {257, 1}, {-1, -1}, {-128, -128}, {-129, 127}, {-255, 1},
+            {-256, 0}, {-257, -1}, {999, -25}, {-999, 25}, {1000, -24}, {FAR[0], 0}, {FAR[1], -1}, {0x12345680, -128},
+        };
+        for (int[] pair : pairs) {
+            Due.is("item of bytes, " + pair[0], x.item(0, 0, 1, pair[0]), 1);
+            Due.is("rows of bytes", x.rows(0, 0, 0), 1);
+            Due.is("HEARD is " + pair[0] + " as a byte", x.told(0, 1), pair[1]);
+        }
+        x.item(0, 0, 0, 10);
+        Due.is("rows of bytes with a number 10", x.rows(0, 0, 0), MixedWords.NOT);
+        x.item(0, 0, 0, 256 + 9);
+        Due.is("rows of bytes with a number 9", x.rows(0, 0, 0), 1);
+        x.item(0, 0, 0, 256 - 9);
+        Due.is("rows of bytes with a number -9", x.rows(0, 0, 0), 1);
+        Due.is("told(0, 0)", x.told(0, 0), -9);
+        x.item(0, 0, 0, 256 - 10);
+        Due.is("rows of bytes with a number -10", x.rows(0, 0, 0), MixedWords.NOT);
+    }
+
+    /** Ints and longs keep every bit of v, so that what is too far stays so. */
+    private static void wholeInts() {
+        int[] far = {1000, -1000, 65536, 1 << 30, FAR[0], FAR[1], FAR[0] + 5, 256 * 1000};
+        for (int lane = 1; lane < 3; lane++) {
+            MixedWords x = new MixedWords();
+            x.table(1, 1);
+            x.sheet(0, lane, 2);
+            for (int v : far) {
+                Due.is("item of lane " + lane + ", " + v, x.item(0, lane, 1, v), 1);
+                Due.is("rows of lane " + lane + " with " + v, x.rows(0, lane, 0), MixedWords.NOT);
+            }
+            for (int v : new int[] {999, -999, 0, 128, -129}) {
+                x.item(0, lane, 1, v);
+                Due.is("rows of lane " + lane + " with " + v, x.rows(0, lane, 0), 1);
+                Due.is("HEARD is " + v, x.told(0, 1), v);
+            }
+        }
+    }
+
+    /** "A SHEET holds a new row": nothing of the old one is left, neither its LANE nor its items nor their count. */
+    private static void anotherRow() {
+        for (int lane = 0; lane < 3; lane++) {
+            MixedWords x = new MixedWords();
+            int other = (lane + 1) % 3;
+            x.sheet(0, lane, 25);
+            for (int i = 0; i < 25; i++) {
+                x.item(0, lane, i, 7);
+            }
+            Due.is("sheet anew", x.sheet(0, other, 6), 6);
+            Due.is("item of the old lane", x.item(0, lane, 0, 1), MixedWords.CAST);
+            Due.is("item 6 of the new", x.item(0, other, 6, 1), MixedWords.INDEX);
+            x.set(0, 0, 5);
+            Due.is("rows of the new", x.rows(0, other, 0), 2);
+            for (int k = 0; k < 6; k++) {
+                Due.is("item " + k + " is 0 at first", x.told(k / 3, k % 3), 0);
+            }
+            x.sheet(0, other, 25);
+            Due.is("rows of one longer", x.rows(0, other, 19), 2);
+            Due.is("its last item is 0 at first", x.told(1, 2), 0);
+            x.item(0, other, 24, 8);
+            Due.is("drop", x.drop(0), 25);
+            x.sheet(0, other, 25);
+            Due.is("rows behind drop", x.rows(0, other, 19), 2);
+            Due.is("its last item is 0 at first", x.told(1, 2), 0);
+        }
+    }
+
+    private static void sheetsByThemselves() {
+        MixedWords x = new MixedWords();
+        x.table(1, 1);
+        for (int sheet = 0; sheet < 4; sheet++) {
+            x.sheet(sheet, sheet % 3, 2 + sheet);
+            x.item(sheet, sheet % 3, 1, 10 + sheet);
+        }
+        Due.is("drop(1)", x.drop(1), 3);
+        for (int sheet = 0; sheet < 4; sheet++) {
+            Due.is("rows of sheet " + sheet, x.rows(sheet, sheet % 3, 0), sheet == 1 ? MixedWords.NULL : 1);
+            Due.is("HEARD of sheet " + sheet, x.told(0, 1), sheet == 1 ? 10 : 10 + sheet);
+        }
+        x.item(3, 0, 1, 99);
+        Due.is("HEARD is no part of the sheet", x.told(0, 1), 13);
+        x.hear(0, 55);
+        Due.is("rows again", x.rows(3, 0, 0), 1);
+        Due.is("the sheet is no part of HEARD", x.told(0, 1), 99);
+        x.table(2, 2);
+        x.letters(4);
+        Due.type(x, "1");
+        x.read();
+        Due.is("sheets stay behind table, letters, read", x.rows(3, 0, 0), 1);
+        Due.is("HEARD then", x.told(0, 1), 99);
+        Due.is("drop(3) counts its items", x.drop(3), 5);
+    }
+
+    /** A row of 0 items is a row: neither BAD nor NULL. */
+    private static void noItemsIsNotNothing() {
+        for (int lane = 0; lane < 3; lane++) {
+            MixedWords x = new MixedWords();
+            Due.is("sheet of none", x.sheet(3, lane, 0), 0);
+            Due.is("item 0 of none", x.item(3, lane, 0, 1), MixedWords.INDEX);
+            Due.is("rows of none", x.rows(3, lane, 0), MixedWords.INDEX);
+            Due.is("item 0 of none, another lane", x.item(3, (lane + 1) % 3, 0, 1), MixedWords.CAST);
+            Due.is("drop of none", x.drop(3), 0);
+            Due.is("item 0 of nothing", x.item(3, lane, 0, 1), MixedWords.NULL);
+            Due.is("rows of nothing", x.rows(3, lane, 0), MixedWords.NULL);
+            Due.is("drop of nothing", x.drop(3), MixedWords.NULL);
+            Due.is("sheet of one", x.sheet(3, lane, 1), 1);
+            Due.is("item 0 of one", x.item(3, lane, 0, 1), 1);
+            Due.is("rows of one", x.rows(3, lane, 0), MixedWords.INDEX);
+        }
+    }
+
+    /** What stands beside the items that are taken may be anything. */
+    private static void rowsBesideOthers() {
+        MixedWords x = new MixedWords();
+        x.table(2, 1);
+        x.sheet(2, 1, 25);
+        for (int i = 0; i < 25; i++) {
+            x.item(2, 1, i, 5000);
+        }
+        for (int from = 0; from <= 21; from++) {
+            Due.is("rows of 5000s from " + from, x.rows(2, 1, from), MixedWords.NOT);
+            for (int k = 0; k < 4; k++) {
+                x.item(2, 1, from + k, k % 2 == 0 ? -k - from % 7 : 900 + from);
+            }
+            Due.is("rows from " + from, x.rows(2, 1, from), 2);
+            Due.is("told(0, 0)", x.told(0, 0), -(from % 7));
+            Due.is("told(1, 0)", x.told(1, 0), -2 - from % 7);
+            Due.is("told(1, 1)", x.told(1, 1), 900 + from);
+            for (int k = 0; k < 4; k++) {
+                x.item(2, 1, from + k, 5000);
+            }
+        }
+        Due.is("rows from 22", x.rows(2, 1, 22), MixedWords.INDEX);
     }
 }

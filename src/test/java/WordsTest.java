@@ -7,6 +7,11 @@ public final class WordsTest {
         nearest();
         soft();
         afterEveryChange();
+        bitsOfLetters();
+        columnZeroIsTheHighest();
+        farthest();
+        likeOnesByNumber();
+        softOfLikeOnes();
         Due.end(WordsTest.class);
     }
 
@@ -116,5 +121,106 @@ public final class WordsTest {
         x.table(2, 2);
         Due.is("nearest(0) behind table", x.nearest(0), 0);
         Due.is("soft(0, 0) behind table", x.soft(0, 0), 0);
+    }
+
+    /** Where just one LETTER fits, SOFT tells its BITS by its sign: below 0 is a 1. */
+    private static void bitsOfLetters() {
+        int[][] ofTwo = {{-1, 4}, {1, -4}};
+        for (int[] l : ofTwo) {
+            MixedWords x = Due.of("1", 2, l[0]);
+            Due.is("soft(0, 0) of " + l[0], x.soft(0, 0), l[1]);
+            Due.is("soft(0, 1) of 2 LETTERS", x.soft(0, 1), -100000001);
+        }
+        int[][] ofFour = {{-3, 16, 4}, {-1, 4, -4}, {1, -4, -4}, {3, -16, 4}};
+        for (int[] l : ofFour) {
+            MixedWords x = Due.of("1", 4, l[0]);
+            Due.is("soft(0, 0) of " + l[0], x.soft(0, 0), l[1]);
+            Due.is("soft(0, 1) of " + l[0], x.soft(0, 1), l[2]);
+        }
+        for (int column = 0; column < 4; column++) {
+            for (int[] l : ofFour) {
+                MixedWords x = Due.of("1,0,0,0;0,1,0,0;0,0,1,0;0,0,0,1", 4, 1, 1, 1, 1);
+                x.hear(column, l[0]);
+                Due.is("soft(" + column + ", 0) of " + l[0], x.soft(column, 0), l[1]);
+                Due.is("soft(" + column + ", 1) of " + l[0], x.soft(column, 1), l[2]);
+            }
+        }
+    }
+
+    /** NUMBERS 0 .. A^M - 1: each LETTER's share by its column. */
+    private static void columnZeroIsTheHighest() {
+        for (int a = 2; a <= 4; a += 2) {
+            MixedWords x = Due.of("1,0,0,0;0,1,0,0;0,0,1,0;0,0,0,1", a);
+            for (int word = 0; word < a * a * a * a; word += a == 2 ? 1 : 17) {
+                MixedWords y = Due.of("1,0,0,0;0,1,0,0;0,0,1,0;0,0,0,1", a);
+                int rest = word;
+                for (int column = 3; column >= 0; column--) {
+                    y.hear(column, 2 * (rest % a) - a + 1);
+                    rest /= a;
+                }
+                Due.is("off(" + word + ")", y.off(word), 0);
+                Due.is("nearest(0)", y.nearest(0), word);
+                Due.is("off(" + word + ") of nothing heard is the sum of squared LETTERS", x.off(word), squares(word, a));
+            }
+        }
+    }
+
+    private static int squares(int word, int a) {
+        int sum = 0;
+        int rest = word;
+        for (int column = 0; column < 4; column++) {
+            int l = 2 * (rest % a) - a + 1;
+            sum += l * l;
+            rest /= a;
+        }
+        return sum;
+    }
+
+    /** The largest OFF and SOFT that the limits leave, both ways. */
+    private static void farthest() {
+        String nines = "9,9,9,9;9,9,9,9;9,9,9,9;9,9,9,9;9,9,9,9";
+        MixedWords low = Due.of(nines, 4, -999, -999, -999, -999, -999);
+        Due.is("off(255) of the least HEARD", low.off(255), 5 * 1107 * 1107);
+        Due.is("off(0) of the least HEARD", low.off(0), 5 * 891 * 891);
+        Due.is("nearest(0) of the least HEARD", low.nearest(0), 0);
+        Due.is("nearest(255) of the least HEARD", low.nearest(255), 255);
+        Due.is("soft(3, 0) of the least HEARD", low.soft(3, 0), 5 * (927 * 927 - 891 * 891));
+        MixedWords high = Due.of(nines, 4, 999, 999, 999, 999, 999);
+        Due.is("nearest(0) of the most HEARD", high.nearest(0), 255);
+        Due.is("nearest(255) of the most HEARD", high.nearest(255), 0);
+        Due.is("soft(3, 0) of the most HEARD", high.soft(3, 0), 5 * (891 * 891 - 927 * 927));
+        Due.is("soft(3, 1) of the most HEARD", high.soft(3, 1), 5 * (909 * 909 - 891 * 891));
+        MixedWords one = Due.of("9;9;9;9;9", 4, 999, 999, 999, 999, 999);
+        Due.is("soft(0, 0) of one column", one.soft(0, 0), 5 * (972 * 972 - 1008 * 1008));
+    }
+
+    /** "of like ones by NUMBER", where several OFFS come more than once. */
+    private static void likeOnesByNumber() {
+        // OFF is the square of the sum of 4 LETTERS: six WORDS have 0, eight have 4, two have 16.
+        MixedWords x = Due.of("1,1,1,1", 2);
+        int[] due = {3, 5, 6, 9, 10, 12, 1, 2, 4, 7, 8, 11, 13, 14, 0, 15};
+        for (int i = 0; i < 16; i++) {
+            Due.is("nearest(" + i + ")", x.nearest(i), due[i]);
+        }
+        Due.is("nearest(16)", x.nearest(16), MixedWords.BAD);
+        MixedWords all = Due.of("3,-5,2,7;1,0,-4,2", 4, 11, -6);
+        int before = -1;
+        for (int i = 0; i < 100; i++) {
+            int word = all.nearest(i);
+            int off = all.off(word);
+            Due.holds("OFF rises to nearest(" + i + ")", before <= off);
+            int next = all.nearest(i + 1);
+            Due.holds("like ones by NUMBER behind " + i, all.off(next) > off || next > word);
+            before = off;
+        }
+    }
+
+    private static void softOfLikeOnes() {
+        MixedWords zeros = Due.of("0,1", 4, 3);
+        Due.is("soft(0, 0) of a column of 0s", zeros.soft(0, 0), 0);
+        Due.is("soft(0, 1) of a column of 0s", zeros.soft(0, 1), 0);
+        Due.is("soft(0, 0) between two LETTERS", Due.of("1", 2, 0).soft(0, 0), 0);
+        Due.is("soft(0, 1) between -3 and -1", Due.of("1", 4, -2).soft(0, 1), 0);
+        Due.is("soft(0, 1) between 1 and 3", Due.of("1", 4, 2).soft(0, 1), 0);
     }
 }
