@@ -7,6 +7,7 @@ public final class WordsTest {
         nearest();
         soft();
         afterEveryChange();
+        afterTwoChanges();
         bitsOfLetters();
         columnZeroIsTheHighest();
         farthest();
@@ -121,6 +122,24 @@ public final class WordsTest {
         x.table(2, 2);
         Due.is("nearest(0) behind table", x.nearest(0), 0);
         Due.is("soft(0, 0) behind table", x.soft(0, 0), 0);
+    }
+
+    /** What was worked out is old also where one change follows another before it is asked for again. */
+    private static void afterTwoChanges() {
+        for (int second = 0; second < 4; second++) {
+            MixedWords x = Due.of("1,0;0,1", 2, 5, 5);
+            x.sheet(0, 1, 6);
+            Due.type(x, "1,0;0,1");
+            Due.is("nearest(0)", x.nearest(0), 3);
+            Due.is("led()", x.led(), 0);
+            x.set(1, 0, -3);
+            int[] due = {1, 2, 2, 2};
+            int got = second == 0 ? x.table(2, 2) : second == 1 ? x.letters(4) : second == 2 ? x.read() : x.rows(0, 1, 0);
+            Due.is("the second change, kind " + second, got, due[second]);
+            // (5 + 1)^2 and (5 - 3 - 1)^2 of the WORD -1, 1.
+            Due.is("nearest(0) behind both", x.nearest(0), second == 1 ? 6 : 0);
+            Due.is("led() behind both", x.led(), second == 1 ? 1 : 0);
+        }
     }
 
     /** Where just one LETTER fits, SOFT tells its BITS by its sign: below 0 is a 1. */
