@@ -9,6 +9,8 @@ public final class MixedWords {
 
     private static final int MOST_ROWS = 5, MOST_COLUMNS = 4, MOST_WORDS = 256;
     private static final int MOST_NUMBER = 9, MOST_HEARD = 999;
+    // Above every OFF: 5 times the square of 999 + 4 * 3 * 9.
+    private static final int BEYOND_OFF = 10000000;
     private static final int SHEETS = 4, LANES = 3, MOST_ITEMS = 25;
     // Where a good answer may itself be below 0, BAD and NOT are moved out of its reach.
     private static final int BAD_SET = BAD - 100, BAD_TOLD = BAD - 10000, BAD_SOFT = BAD - 100000000;
@@ -700,7 +702,7 @@ public final class MixedWords {
 
         int leastWith(int column, int b, int value) {
             workOutOffs();
-            int best = Integer.MAX_VALUE;
+            int best = BEYOND_OFF;
             for (int word = 0; word < mix.wordCount(); word++) {
                 if (bitOf(word, column, b) == value) {
                     best = Math.min(best, offs[word]);

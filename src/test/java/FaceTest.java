@@ -53,12 +53,31 @@ public final class FaceTest {
         Due.holds("one public constructor", constructors.length == 1 && constructors[0].getParameterCount() == 0
             && Modifier.isPublic(constructors[0].getModifiers()));
         for (Class<?> inside : c.getDeclaredClasses()) {
-            Due.holds(inside + " is static", Modifier.isStatic(inside.getModifiers()));
-            for (Method m : inside.getDeclaredMethods()) {
-                Due.holds(inside + "." + m.getName() + " bears no public name", !names.contains(m.getName()));
+            int m = inside.getModifiers();
+            Due.holds(inside + " is static", Modifier.isStatic(m) && !Modifier.isPublic(m) && !Modifier.isProtected(m));
+            for (Method method : inside.getDeclaredMethods()) {
+                Due.holds(inside + "." + method.getName() + " bears no public name", !names.contains(method.getName()));
+            }
+            sizes(inside);
+        }
+        sizes(c);
+        Due.holds("at most twelve classes", c.getDeclaredClasses().length < 12);
+    }
+
+    /** Rules 5 and 11: no static state, at most seven parameters and twenty fields beside the constants. */
+    private static void sizes(Class<?> c) {
+        int fields = 0;
+        for (Field f : c.getDeclaredFields()) {
+            if (Modifier.isStatic(f.getModifiers())) {
+                Due.holds(f + " is a constant", Modifier.isFinal(f.getModifiers()) && f.getType().isPrimitive());
+            } else {
+                fields++;
             }
         }
-        Due.holds("at most twelve classes", c.getDeclaredClasses().length < 12);
+        Due.holds(c + " has " + fields + " fields", fields <= 20);
+        for (Method m : c.getDeclaredMethods()) {
+            Due.holds(m + " takes at most seven", m.getParameterCount() <= 7);
+        }
     }
 
     private static void constants() throws Exception {
@@ -83,6 +102,7 @@ public final class FaceTest {
             "\\btry\\b", "\\bcatch\\b", "\\bfinally\\b", "\\bthrow\\b", "\\bthrows\\b", "->", "::", "\\bpackage\\b",
             "\\bsynchronized\\b", "\\bassert\\b", "Exact\\b", "\\bdouble\\b", "\\bfloat\\b", "\\bSystem\\.(?!arraycopy)",
             "\\bMath\\.(?!abs|max|min|floorDiv|floorMod)", "\\bprotected\\b", "\\bstatic \\{", "\\bnative\\b",
+            "\\b(Integer|Long)\\.(?!bitCount\\()", "\\bArrays\\.(?!fill\\()", "\\binstanceof\\b",
         };
         for (String rule : ruledOut) {
             Due.holds("no " + rule, !Pattern.compile(rule).matcher(code).find());
@@ -91,6 +111,7 @@ public final class FaceTest {
         while (imports.find()) {
             Due.holds("import of " + imports.group(1), imports.group(1).equals("java.util.Arrays"));
         }
+        methodLengths(code);
         // All rows are made with the object: a call makes none.
         Matcher made = Pattern.compile("(?m)^.*\\bnew\\b.*$").matcher(code);
         while (made.find()) {
@@ -99,5 +120,17 @@ public final class FaceTest {
             boolean isInConstructor = line.matches("\\w+(\\[i\\])? = new \\w+(\\(\\w*\\)|\\[SHEETS\\]);");
             Due.holds("made with the object: " + line, isField || isInConstructor);
         }
+    }
+
+    /** Rule 11: a method's text runs from its head to the brace that stands as far in as the head. */
+    private static void methodLengths(String code) {
+        Matcher methods = Pattern.compile("(?m)^( +)[\\w\\[\\] ]+\\([^;{]*\\) \\{\n(?s:(.*?))^\\1\\}$").matcher(code);
+        int seen = 0;
+        while (methods.find()) {
+            long lines = methods.group(2).lines().count();
+            Due.holds("short: " + methods.group().lines().findFirst().orElse("").trim(), lines <= 60);
+            seen++;
+        }
+        Due.holds("methods were seen: " + seen, seen > 60);
     }
 }
